@@ -14,6 +14,7 @@ public final class ClosingTest {
         closeAllRefused();
         day();
         differ();
+        differEverywhere();
         differRefused();
         claim();
         Check.end();
@@ -163,6 +164,30 @@ public final class ClosingTest {
         Check.due("its line", y.differ(0, 1), 1);
     }
 
+    /** All the lines that there can be, each with something missing, line 3 closed first. */
+    private static void differEverywhere() {
+        ReceiveSteps x = new ReceiveSteps();
+        for (int a = 1; a <= 16; a++) {
+            x.announce(0, 4);
+            for (int l = 0; l < 4; l++) {
+                x.line(a, 0, 4 * a + l);
+            }
+            x.arrive(a, 0, true);
+            for (int l = 3; l >= 0; l--) {
+                x.close(a, l);
+            }
+            x.closeAll(a);
+        }
+        Check.due("lines closed", x.count(4), 64);
+        for (int i = 0; i < 64; i++) {
+            int a = i / 4 + 1;
+            int l = 3 - i % 4;
+            Check.due("all: differ(" + i + ", 0)", x.differ(i, 0), a);
+            Check.due("all: differ(" + i + ", 1)", x.differ(i, 1), l);
+            Check.due("all: differ(" + i + ", 2)", x.differ(i, 2), -4 * a - l);
+        }
+    }
+
     private static void differRefused() {
         Check.refused("differ(2, 0)", NONE, ClosingTest::differing, y -> y.differ(2, 0));
         Check.refused("differ(2, 3)", NONE, ClosingTest::differing, y -> y.differ(2, 3));
@@ -190,6 +215,9 @@ public final class ClosingTest {
         Check.due("claim(1, most)", x.claim(1, Integer.MAX_VALUE), -1);
         Check.due("claim(2, 0)", x.claim(2, 0), 3);
         Check.due("claim(2, 1)", x.claim(2, 1), -1);
+        x.damaged(1, 1);
+        Check.due("unit 1 comes first", x.claim(1, 0), 1);
+        Check.due("unit 2 is the next", x.claim(1, 1), 2);
         Check.due("of one that is CLOSED", Scene.closed().claim(1, 0), 2);
         Check.refused("claim(2, -1)", NONE, Scene::broken, y -> y.claim(2, -1));
         Check.refused("claim(0, 0)", NONE, Scene::broken, y -> y.claim(0, 0));

@@ -163,6 +163,9 @@ public final class UnitsTest {
         y.right(7, true);
         y.right(2, false);
         Check.due("take(1, 7)", y.take(1, 7), 0);
+        ReceiveSteps z = Scene.late();
+        z.right(0, true);
+        Check.due("take(1, 0)", z.take(1, 0), 0);
     }
 
     private static void takeRefused() {
