@@ -1,7 +1,14 @@
-import java.util.function.IntSupplier;
-
-/** All that an object of a few units answers, then what it answers to calls that show its hidden state. */
+/**
+ * All that an object answers, and what it then answers to calls that show its hidden state. Each part is taken of
+ * an object of its own, because some parts change it, and so that none gets more than 512 calls.
+ */
 final class Portrait {
+    private static final int UNIT_PARTS = 8;
+    private static final int OTHER_PARTS = 8;
+    private static final int PERSONS = 8;
+    private static final int DOORS = 4;
+    static final int PARTS = OTHER_PARTS + UNIT_PARTS + PERSONS + DOORS;
+
     private final ReceiveSteps x;
     private final StringBuilder text = new StringBuilder();
 
@@ -9,93 +16,157 @@ final class Portrait {
         this.x = x;
     }
 
-    static String of(ReceiveSteps x) {
+    static String part(int part, ReceiveSteps x) {
         Portrait portrait = new Portrait(x);
-        portrait.counts();
-        portrait.announcements();
-        portrait.units();
-        portrait.differences();
-        portrait.hidden();
+        if (part < OTHER_PARTS) {
+            portrait.other(part);
+        } else if (part < OTHER_PARTS + UNIT_PARTS) {
+            portrait.units(part - OTHER_PARTS);
+        } else if (part < OTHER_PARTS + UNIT_PARTS + PERSONS) {
+            portrait.rightOf(part - OTHER_PARTS - UNIT_PARTS);
+        } else {
+            portrait.door(part - OTHER_PARTS - UNIT_PARTS - PERSONS);
+        }
         return portrait.text.toString();
     }
 
-    private void add(String name, IntSupplier call) {
-        text.append(' ').append(name).append('=');
-        try {
-            text.append(call.getAsInt());
-        } catch (RuntimeException e) {
-            text.append(e.getClass().getSimpleName());
+    private void other(int part) {
+        switch (part) {
+            case 0: counts(); break;
+            case 1: lines(); break;
+            case 2: claims(); break;
+            case 3: differences(); break;
+            case 4: prints(); break;
+            case 5: whoCounted(); break;
+            case 6: samples(); break;
+            default: next(); break;
         }
+    }
+
+    private String add(String name, int... with) {
+        Call call = new Call(name, with);
+        String answer = call.answer(x);
+        text.append(call).append('=').append(answer).append(' ');
+        return answer;
     }
 
     private void counts() {
         for (int what = 0; what < 5; what++) {
-            int asked = what;
-            add("count" + what, () -> x.count(asked));
+            add("count", what);
+        }
+        for (int a = 1; a <= x.count(0); a++) {
+            for (int what = 0; what < 4; what++) {
+                add("state", a, what);
+            }
         }
     }
 
-    private void announcements() {
+    private void lines() {
         for (int a = 1; a <= x.count(0); a++) {
-            int announce = a;
-            for (int what = 0; what < 4; what++) {
-                int asked = what;
-                add("state" + a + "." + what, () -> x.state(announce, asked));
-            }
             for (int l = 0; l < x.state(a, 2); l++) {
                 for (int what = 0; what < 7; what++) {
-                    int line = l;
-                    int asked = what;
-                    add("told" + a + "." + l + "." + what, () -> x.told(announce, line, asked));
+                    add("told", a, l, what);
                 }
             }
-            add("claim" + a, () -> x.claim(announce, 0));
-            add("claim" + a, () -> x.claim(announce, 1));
         }
     }
 
-    private void units() {
+    private void units(int what) {
         for (int u = 1; u <= x.count(1); u++) {
-            for (int what = 0; what < 8; what++) {
-                int unit = u;
-                int asked = what;
-                add("unit" + u + "." + what, () -> x.unit(unit, asked));
+            add("unit", u, what);
+        }
+    }
+
+    private void claims() {
+        for (int a = 1; a <= x.count(0); a++) {
+            for (int i = 0; i < 4; i++) {
+                add("claim", a, i);
             }
         }
     }
 
     private void differences() {
-        for (int i = 0; i < 2; i++) {
+        for (int i = 0; i < x.count(4); i++) {
             for (int what = 0; what < 3; what++) {
-                int which = i;
-                int asked = what;
-                add("differ" + i + "." + what, () -> x.differ(which, asked));
+                add("differ", i, what);
             }
         }
     }
 
-    /** Prints, rights, and who counted. */
-    private void hidden() {
+    private void prints() {
         for (int u = 1; u <= x.count(1); u++) {
-            int unit = u;
-            add("again" + u, () -> x.again(unit));
-            add("take" + u, () -> x.take(unit, 2));
+            add("again", u);
         }
+    }
+
+    private void whoCounted() {
         for (int a = 1; a <= x.count(0); a++) {
-            int announce = a;
-            add("accept" + a, () -> {
-                x.accept(announce, 2);
-                return 1;
-            });
-            add("wanted" + a, () -> {
-                x.wanted(announce, 0, 5);
-                return x.told(announce, 0, 4);
-            });
-            for (int p = 0; p < 4; p++) {
-                int person = p;
-                add("count" + a + "." + p, () -> x.count(announce, 0, 1, 0, person));
+            for (int l = 0; l < x.state(a, 2); l++) {
+                for (int person = 0; person < PERSONS; person++) {
+                    add("countPieces", a, l, 1, 0, person);
+                }
             }
-            add("line" + a, () -> x.line(announce, 0, 0));
         }
+    }
+
+    private void samples() {
+        for (int a = 1; a <= x.count(0); a++) {
+            for (int l = 0; l < x.state(a, 2); l++) {
+                add("sample", a, l, 1);
+                add("wanted", a, l, 5);
+                add("told", a, l, 4);
+            }
+        }
+    }
+
+    /** The next numbers of lines, announcements and labels, and what is left to be closed. */
+    private void next() {
+        for (int a = 1; a <= x.count(0); a++) {
+            for (int l = 0; l < x.state(a, 2); l++) {
+                add("close", a, l);
+            }
+            add("closeAll", a);
+            add("line", a, 0, 0);
+        }
+        for (int u = 1; u <= x.count(1); u++) {
+            add("label", u);
+        }
+        add("announce", 0, 1);
+    }
+
+    /** By what waits and, where there is room, by one more that nobody knew of. */
+    private void rightOf(int person) {
+        for (int a = 1; a <= x.count(0); a++) {
+            add("accept", a, person);
+        }
+        for (int u = 1; u <= x.count(1); u++) {
+            add("take", u, person);
+        }
+        String stranger = newcomer();
+        if (!stranger.isEmpty()) {
+            for (int door = 0; door < DOORS; door++) {
+                add("arrive", Integer.parseInt(stranger), door, 0);
+            }
+            add("accept", Integer.parseInt(stranger), person);
+        }
+    }
+
+    private void door(int door) {
+        for (int a = 1; a <= x.count(0); a++) {
+            add("arrive", a, door, 1);
+        }
+        String another = newcomer();
+        if (!another.isEmpty()) {
+            add("arrive", Integer.parseInt(another), door, 1);
+        }
+    }
+
+    private String newcomer() {
+        String number = add("announce", 0, 1);
+        if (number.startsWith("throws.")) {
+            return "";
+        }
+        add("line", Integer.parseInt(number), 0, 0);
+        return number;
     }
 }

@@ -71,12 +71,13 @@ public final class RefusalsTest {
         for (int call = opened; call < CALLS; call++) {
             String name = names.get(random.nextInt(names.size()));
             int[] with = arguments(name, random, 3 + run % 15, run % 2 == 0 ? 4 : 40);
-            String got = answer(x, name, with);
-            judge(run, name, with, got);
+            Call made = new Call(name, with);
+            String got = made.answer(x);
+            judge(run, name, made, got);
             if (!isRefused(name, got)) {
-                String other = answer(twin, name, with);
+                String other = made.answer(twin);
                 if (!got.equals(other)) {
-                    Check.tell("run " + run + ": " + name + Arrays.toString(with) + " answered " + got
+                    Check.tell("run " + run + ": " + made + " answered " + got
                             + ", and " + other + " without what was refused");
                     return;
                 }
@@ -97,14 +98,14 @@ public final class RefusalsTest {
         return 30;
     }
 
-    private static void judge(int run, String name, int[] with, String got) {
+    private static void judge(int run, String name, Call made, String got) {
         if (!got.startsWith("throws.")) {
             return;
         }
         String thrown = got.substring("throws.".length());
         MET.get(name).add(thrown);
         if (!ALLOWED.get(name).contains(thrown)) {
-            Check.tell("run " + run + ": " + name + Arrays.toString(with) + " threw " + thrown);
+            Check.tell("run " + run + ": " + made + " threw " + thrown);
         }
     }
 
@@ -112,42 +113,6 @@ public final class RefusalsTest {
         boolean broken = name.equals("countPieces") || name.equals("closeAll");
         boolean open = name.equals("close") && !got.equals("1");
         return got.startsWith("throws.") || broken && got.startsWith("-") || open;
-    }
-
-    private static String answer(ReceiveSteps x, String name, int[] with) {
-        try {
-            return String.valueOf(call(x, name, with[0], with[1], with[2], with[3], with[4]));
-        } catch (RuntimeException e) {
-            return "throws." + e.getClass().getSimpleName();
-        }
-    }
-
-    private static int call(ReceiveSteps x, String name, int a, int b, int c, int d, int e) {
-        switch (name) {
-            case "announce": return x.announce(a, b);
-            case "line": return x.line(a, b, c);
-            case "arrive": return x.arrive(a, b, c % 3 != 0);
-            case "accept": x.accept(a, b); return 0;
-            case "right": x.right(a, b % 2 == 0); return 0;
-            case "tolerance": x.tolerance(a, b, c); return 0;
-            case "wanted": x.wanted(a, b, c); return 0;
-            case "countPieces": return x.count(a, b, c, d, e);
-            case "damaged": return x.damaged(a, b);
-            case "sample": return x.sample(a, b, c % 3 != 0);
-            case "date": return x.date(a, b);
-            case "take": return x.take(a, b);
-            case "label": return x.label(a);
-            case "again": return x.again(a);
-            case "close": return x.close(a, b);
-            case "closeAll": return x.closeAll(a);
-            case "day": x.day(a); return 0;
-            case "differ": return x.differ(a, b);
-            case "claim": return x.claim(a, b);
-            case "unit": return x.unit(a, b);
-            case "told": return x.told(a, b, c);
-            case "state": return x.state(a, b);
-            default: return x.count(a);
-        }
     }
 
     /** Mostly within the ranges, of so many announcements; one in so many is anything. */

@@ -1,6 +1,18 @@
+import java.util.function.Consumer;
+import java.util.function.Supplier;
+
 /** Objects at the steps of one receiving: announcement 1 of owner 3 with line 0 (120 pieces) and line 1 (30). */
 final class Scene {
     private Scene() {
+    }
+
+    /** The same scene with some steps more. */
+    static Supplier<ReceiveSteps> after(Supplier<ReceiveSteps> scene, Consumer<ReceiveSteps> steps) {
+        return () -> {
+            ReceiveSteps x = scene.get();
+            steps.accept(x);
+            return x;
+        };
     }
 
     /** Line 1 is still to be told. */
@@ -77,6 +89,59 @@ final class Scene {
         }
         for (int a = 1; a <= 4; a++) {
             x.arrive(a, a - 1, true);
+        }
+        return x;
+    }
+
+    /** One announcement of owner 0, all lines of which are told: so many pieces each. */
+    static ReceiveSteps lines(int... pieces) {
+        ReceiveSteps x = new ReceiveSteps();
+        x.announce(0, pieces.length);
+        for (int n : pieces) {
+            x.line(1, 0, n);
+        }
+        return x;
+    }
+
+    /** The same at door 0. */
+    static ReceiveSteps linesArrived(int... pieces) {
+        ReceiveSteps x = lines(pieces);
+        x.arrive(1, 0, true);
+        return x;
+    }
+
+    /** One line of 400 pieces, counted by person 0 into eight units. */
+    static ReceiveSteps eightUnits() {
+        ReceiveSteps x = linesArrived(400);
+        x.count(1, 0, 400, 5, 0);
+        return x;
+    }
+
+    /** Everybody may accept. */
+    static void allMay(ReceiveSteps x) {
+        for (int person = 0; person < 8; person++) {
+            x.right(person, true);
+        }
+    }
+
+    /**
+     * So many of the 120 units are left, 0 to 8. At the doors 0 to 3 stand announcements 1 to 4 of four lines of 400
+     * pieces; person 0 counted them all, but for the last pieces of line 2 of 4 and its whole line 3.
+     */
+    static ReceiveSteps roomFor(int units) {
+        ReceiveSteps x = new ReceiveSteps();
+        for (int a = 1; a <= 4; a++) {
+            x.announce(a, 4);
+            for (int l = 0; l < 4; l++) {
+                x.line(a, 0, 400);
+            }
+            x.arrive(a, a - 1, true);
+        }
+        for (int k = 0; k < 14; k++) {
+            x.count(1 + k / 4, k % 4, 400, 1, 0);
+        }
+        if (units < 8) {
+            x.count(4, 2, 400 - 50 * units, 1, 0);
         }
         return x;
     }
