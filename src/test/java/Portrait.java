@@ -119,7 +119,7 @@ final class Portrait {
         }
     }
 
-    /** The next numbers of lines, announcements and labels, and what is left to be closed. */
+    /** The next numbers of lines, announcements, labels and prints, and what is left to be closed. */
     private void next() {
         for (int a = 1; a <= x.count(0); a++) {
             for (int l = 0; l < x.state(a, 2); l++) {
@@ -130,24 +130,25 @@ final class Portrait {
         }
         for (int u = 1; u <= x.count(1); u++) {
             add("label", u);
+            add("again", u);
         }
         add("announce", 0, 1);
     }
 
-    /** By what waits and, where there is room, by one more that nobody knew of. */
+    /** By one more that nobody knew of, where there is room, and by what waits. */
     private void rightOf(int person) {
-        for (int a = 1; a <= x.count(0); a++) {
-            add("accept", a, person);
-        }
-        for (int u = 1; u <= x.count(1); u++) {
-            add("take", u, person);
-        }
         String stranger = newcomer();
         if (!stranger.isEmpty()) {
             for (int door = 0; door < DOORS; door++) {
                 add("arrive", Integer.parseInt(stranger), door, 0);
             }
             add("accept", Integer.parseInt(stranger), person);
+        }
+        for (int a = 1; a <= x.count(0); a++) {
+            add("accept", a, person);
+        }
+        for (int u = 1; u <= x.count(1); u++) {
+            add("take", u, person);
         }
     }
 
